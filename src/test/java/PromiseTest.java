@@ -1,74 +1,5 @@
-import java.util.NoSuchElementException;
-
 /** One method for each promise of the document; each makes houses of its own. */
-public final class PromiseTest {
-    private interface Call {
-        int run();
-    }
-
-    private static final Class<?> NONE = NoSuchElementException.class;
-    private static final Class<?> LOCKED = UnsupportedOperationException.class;
-    private static final Class<?> BAD = IllegalArgumentException.class;
-    private static final Class<?> CONFLICT = IllegalStateException.class;
-    private static final Class<?> FULL = IndexOutOfBoundsException.class;
-
-    private static int wrong = 0;
-    private static int checked = 0;
-    private static String promise = "";
-
-    private static String outcome(Call call) {
-        try {
-            return Integer.toString(call.run());
-        } catch (RuntimeException e) {
-            return e.getClass().getSimpleName();
-        }
-    }
-
-    private static void compare(String got, String due) {
-        checked++;
-        if (!got.equals(due)) {
-            wrong++;
-            StackTraceElement[] trace = new Throwable().getStackTrace();
-            System.out.println("promise " + promise + ", line " + trace[2].getLineNumber()
-                + ": answered " + got + ", due is " + due);
-        }
-    }
-
-    private static void due(int answer, Call call) {
-        compare(outcome(call), Integer.toString(answer));
-    }
-
-    private static void refused(Class<?> kind, Call call) {
-        compare(outcome(call), kind.getSimpleName());
-    }
-
-    private static long n(String letters) {
-        long name = 0;
-        for (int i = letters.length() - 1; i >= 0; i--) {
-            name = name << 8 | letters.charAt(i);
-        }
-        return name;
-    }
-
-    private static final long A = n("a");
-    private static final long B = n("b");
-    private static final long C = n("c");
-
-    /** A house with the packages 1 = P1, 2 = P2, and so on. */
-    private static SymbolHouse house(int packages) {
-        SymbolHouse h = new SymbolHouse();
-        for (int p = 1; p <= packages; p++) {
-            h.pack(n("P" + p));
-        }
-        return h;
-    }
-
-    private static void fill(SymbolHouse h, int p, int upTo) {
-        for (int i = h.count(1); i < upTo; i++) {
-            h.intern(p, n("fill" + i));
-        }
-    }
-
+public final class PromiseTest extends Checks {
     private static void newObject() {
         SymbolHouse h = new SymbolHouse();
         due(1, () -> h.count(0));
@@ -255,22 +186,8 @@ public final class PromiseTest {
         due(0, () -> h.choose(0));
     }
 
-    /** 1 and 2 have an external a (0, 1) and b (2, 3); 3 uses 1. */
-    private static SymbolHouse twoSides() {
-        SymbolHouse h = house(3);
-        h.intern(1, A);
-        h.intern(2, A);
-        h.intern(1, B);
-        h.intern(2, B);
-        for (int s = 0; s < 4; s++) {
-            h.export(1 + s % 2, s);
-        }
-        h.use(3, 1);
-        return h;
-    }
-
     private static void uses() {
-        SymbolHouse h = twoSides();
+        SymbolHouse h = in(TWO_SIDES);
         due(300, () -> h.means(3, A));
         due(302, () -> h.means(3, B));
         due(0, () -> h.use(3, 1));
@@ -302,7 +219,7 @@ public final class PromiseTest {
     }
 
     private static void usesKeepingOld() {
-        SymbolHouse h = twoSides();
+        SymbolHouse h = in(TWO_SIDES);
         h.choose(1);
         due(1, () -> h.use(3, 2));
         due(1100, () -> h.means(3, A));
@@ -314,7 +231,7 @@ public final class PromiseTest {
     }
 
     private static void usesTakingNew() {
-        SymbolHouse h = twoSides();
+        SymbolHouse h = in(TWO_SIDES);
         h.choose(2);
         h.intern(3, C);
         due(1, () -> h.use(3, 2));
@@ -350,7 +267,7 @@ public final class PromiseTest {
     }
 
     private static void unuses() {
-        SymbolHouse h = twoSides();
+        SymbolHouse h = in(TWO_SIDES);
         h.choose(1);
         h.use(3, 2);
         due(1, () -> h.unuse(3, 1));
@@ -453,20 +370,8 @@ public final class PromiseTest {
         due(0, () -> h.count(2));
     }
 
-    /** 2, 3 and 4 use 1, which has a symbol 0; 2 and 4 have one of their own, 1 and 2. */
-    private static SymbolHouse threeUsers() {
-        SymbolHouse h = house(4);
-        h.intern(1, A);
-        h.intern(2, A);
-        h.intern(4, A);
-        h.use(2, 1);
-        h.use(3, 1);
-        h.use(4, 1);
-        return h;
-    }
-
     private static void exportsSettled() {
-        SymbolHouse h = threeUsers();
+        SymbolHouse h = in(THREE_USERS);
         refused(CONFLICT, () -> h.export(1, 0));
         due(1, () -> h.count(2));
         due(100, () -> h.means(1, A));
@@ -479,7 +384,7 @@ public final class PromiseTest {
         due(1102, () -> h.means(4, A));
         due(2, () -> h.count(3));
         due(0, () -> h.unintern(3, 0));
-        SymbolHouse other = threeUsers();
+        SymbolHouse other = in(THREE_USERS);
         other.choose(2);
         due(1, () -> other.export(1, 0));
         due(1100, () -> other.means(2, A));
@@ -488,7 +393,7 @@ public final class PromiseTest {
         due(-1, () -> other.about(1, 0));
         due(-1, () -> other.about(2, 0));
         due(2, () -> other.count(3));
-        SymbolHouse last = threeUsers();
+        SymbolHouse last = in(THREE_USERS);
         last.shadow(2, A);
         refused(CONFLICT, () -> last.export(1, 0));
         last.shadow(4, A);
@@ -660,7 +565,7 @@ public final class PromiseTest {
     }
 
     private static void uninterns() {
-        SymbolHouse h = twoSides();
+        SymbolHouse h = in(TWO_SIDES);
         h.choose(1);
         h.use(3, 2);
         h.choose(2);
@@ -684,7 +589,7 @@ public final class PromiseTest {
         refused(NONE, () -> h.unintern(0, 4));
         refused(NONE, () -> h.unintern(4, 0));
         refused(NONE, () -> h.unintern(1, -1));
-        SymbolHouse own = twoSides();
+        SymbolHouse own = in(TWO_SIDES);
         int mine = own.shadow(3, A);
         own.unexport(2, 3);
         due(1, () -> own.use(3, 2));
@@ -830,7 +735,7 @@ public final class PromiseTest {
     }
 
     private static void everyConflictCountsOnce() {
-        SymbolHouse h = twoSides();
+        SymbolHouse h = in(TWO_SIDES);
         refused(CONFLICT, () -> h.use(3, 2));
         due(1, () -> h.count(2));
         refused(CONFLICT, () -> h.drop(1));
@@ -880,52 +785,38 @@ public final class PromiseTest {
         refused(FULL, () -> h.intern(0, A));
     }
 
-    private static void during(String number, Runnable test) {
-        promise = number;
-        try {
-            test.run();
-        } catch (RuntimeException e) {
-            wrong++;
-            System.out.println("promise " + number + ": a call that prepares the test threw " + e);
-            e.printStackTrace(System.out);
-        }
-    }
-
     public static void main(String[] args) {
-        during("1", PromiseTest::newObject);
-        during("2", PromiseTest::packages);
-        during("2", PromiseTest::namesEndAtTheFirstZero);
-        during("3", PromiseTest::nicknames);
-        during("4", PromiseTest::renames);
-        during("5", PromiseTest::drops);
-        during("6", PromiseTest::finds);
-        during("7", PromiseTest::chooses);
-        during("8", PromiseTest::uses);
-        during("8", PromiseTest::usesKeepingOld);
-        during("8", PromiseTest::usesTakingNew);
-        during("8", PromiseTest::usesWhatIsShadowed);
-        during("9", PromiseTest::unuses);
-        during("10", PromiseTest::interns);
-        during("11", PromiseTest::meanings);
-        during("12", PromiseTest::exports);
-        during("12", PromiseTest::exportsSettled);
-        during("12", PromiseTest::settlesOnlyWhatIsStillThere);
-        during("12", PromiseTest::settlesBeforeItIsDone);
-        during("13", PromiseTest::unexports);
-        during("14", PromiseTest::brings);
-        during("15", PromiseTest::seizes);
-        during("16", PromiseTest::shadows);
-        during("17", PromiseTest::uninterns);
-        during("18", PromiseTest::lists);
-        during("19", PromiseTest::allOfAName);
-        during("20", PromiseTest::aboutSymbols);
-        during("21", PromiseTest::looks);
-        during("22", PromiseTest::counts);
-        during("23", PromiseTest::everyConflictCountsOnce);
-        during("23", PromiseTest::fullHouse);
-        System.out.println(checked + " answers checked, " + wrong + " wrong");
-        if (wrong != 0) {
-            System.exit(1);
-        }
+        sentence("Promise 1", PromiseTest::newObject);
+        sentence("Promise 2", PromiseTest::packages);
+        sentence("Promise 2", PromiseTest::namesEndAtTheFirstZero);
+        sentence("Promise 3", PromiseTest::nicknames);
+        sentence("Promise 4", PromiseTest::renames);
+        sentence("Promise 5", PromiseTest::drops);
+        sentence("Promise 6", PromiseTest::finds);
+        sentence("Promise 7", PromiseTest::chooses);
+        sentence("Promise 8", PromiseTest::uses);
+        sentence("Promise 8", PromiseTest::usesKeepingOld);
+        sentence("Promise 8", PromiseTest::usesTakingNew);
+        sentence("Promise 8", PromiseTest::usesWhatIsShadowed);
+        sentence("Promise 9", PromiseTest::unuses);
+        sentence("Promise 10", PromiseTest::interns);
+        sentence("Promise 11", PromiseTest::meanings);
+        sentence("Promise 12", PromiseTest::exports);
+        sentence("Promise 12", PromiseTest::exportsSettled);
+        sentence("Promise 12", PromiseTest::settlesOnlyWhatIsStillThere);
+        sentence("Promise 12", PromiseTest::settlesBeforeItIsDone);
+        sentence("Promise 13", PromiseTest::unexports);
+        sentence("Promise 14", PromiseTest::brings);
+        sentence("Promise 15", PromiseTest::seizes);
+        sentence("Promise 16", PromiseTest::shadows);
+        sentence("Promise 17", PromiseTest::uninterns);
+        sentence("Promise 18", PromiseTest::lists);
+        sentence("Promise 19", PromiseTest::allOfAName);
+        sentence("Promise 20", PromiseTest::aboutSymbols);
+        sentence("Promise 21", PromiseTest::looks);
+        sentence("Promise 22", PromiseTest::counts);
+        sentence("Promise 23", PromiseTest::everyConflictCountsOnce);
+        sentence("Promise 23", PromiseTest::fullHouse);
+        finish();
     }
 }
